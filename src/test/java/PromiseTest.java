@@ -22,6 +22,7 @@ public final class PromiseTest {
         carry();
         told();
         still();
+        twenties();
         pass();
         tide();
         on();
@@ -151,6 +152,10 @@ public final class PromiseTest {
         fault("quorum ", 7);
         fault("quorum  1", 7);
         fault("quorum a", 7);
+        fault("quorum :", 7);
+        fault("quorum /", 7);
+        fault("quorum 1:", 8);
+        fault("quorum 1/", 8);
         fault("quorum 00", 8);
         fault("quorum 012", 8);
         fault("quorum 123", 9);
@@ -168,6 +173,8 @@ public final class PromiseTest {
         fault("favour 1 q=1", 9);
         fault("favour 1 p", 10);
         fault("favour 1 p!1", 10);
+        fault("favour 1 p1", 10);
+        fault("favour 1 =1", 9);
         fault("favour 1 p<=1", 11);
         fault("favour 1 p=", 11);
         fault("favour 1 p=-1", 11);
@@ -197,33 +204,37 @@ public final class PromiseTest {
         fault(ten + ";", ten.length());
         fault(ten + ";quorum 1", ten.length());
         fault(ten + "x", ten.length());
+        String nine = ten.substring(9) + ";";
+        whole(nine + "favour 4 p=0");
+        x.thing(0, 0, 0);
+        due("3: the tenth clause counts", x.of(0, 10), 4);
         String full = "favour 1 p=1|p=2|p=3|p=4|p=5|k=1|k=2|k=3|k=4|k=5|v=1|v=2|v=3|v=4|v=5|m=1|m=2|m=3|m=4|c=1|c=2|c=3|t";
         fault(full, full.length());
         whole(full.substring(0, 96) + "|t=9");
     }
 
-    /** LIKES of a plain THING are its SUM: so one favour tells whether E holds. */
+    /** LIKES of a BOOT are the half of SUM: so one favour tells whether E holds. */
     private static void holds(String e, int motion, int want) {
         fresh();
         x.thing(0, 0, 0);
-        x.thing(0, 7, 0);
+        x.thing(3, 7, 0);
         x.carry(2, true);
         x.carry(4, true);
         x.pass(13);
-        due("3: bar of " + e, bar("favour 5 " + e), 0);
+        due("3: bar of " + e, bar("favour 10 " + e), 0);
         due("3: " + e + " of MOTION " + motion, x.of(1, 10 + motion), want * 5);
     }
 
     private static void tests() {
         String[] facts = {"p", "k", "v", "m", "c", "t"};
-        int[] are = {1, 0, 7, 3, 2, 3};
+        int[] are = {1, 3, 7, 4, 2, 3};
         for (int i = 0; i < facts.length; i++) {
-            holds(facts[i] + "=" + are[i], 3, 1);
-            holds(facts[i] + "=" + (are[i] + 1), 3, 0);
-            holds(facts[i] + "<" + are[i], 3, 0);
-            holds(facts[i] + "<" + (are[i] + 1), 3, 1);
-            holds(facts[i] + ">" + are[i], 3, 0);
-            holds(facts[i] + ">" + Math.max(0, are[i] - 1), 3, are[i] > 0 ? 1 : 0);
+            holds(facts[i] + "=" + are[i], 4, 1);
+            holds(facts[i] + "=" + (are[i] + 1), 4, 0);
+            holds(facts[i] + "<" + are[i], 4, 0);
+            holds(facts[i] + "<" + (are[i] + 1), 4, 1);
+            holds(facts[i] + ">" + are[i], 4, 0);
+            holds(facts[i] + ">" + (are[i] - 1), 4, 1);
         }
         holds("t<10", 0, 1);
         holds("t=13", 0, 0);
@@ -336,6 +347,10 @@ public final class PromiseTest {
                 due("5: LIKES of " + i + " for " + m + ", TIDE odd", x.of(i, 10 + m), odd[i][m]);
             }
         }
+        x.pass(1);
+        due("5: HARMONIUM at TIDE 2", x.of(4, 11), 14);
+        x.pass(1);
+        due("5: HARMONIUM at TIDE 3", x.of(4, 11), 0);
         fresh();
         x.thing(3, 9, 9);
         bar("resent 7 m=0;favour 7 m=1;favour 1 m=2");
@@ -498,6 +513,40 @@ public final class PromiseTest {
         x.move(0);
         x.move(1);
         due("12: STILL by those who come in", x.told(4), 2);
+    }
+
+    /** One is IN at TIDES 3 modulo 4; those with 9 at the end, each 20th, carry one more of 1, 2, 3, 4. */
+    private static void countingByTwenties() {
+        fresh();
+        x.thing(0, 0, 9);
+        x.wind(3, 9);
+        int number = bar("quorum 1;favour 1 m=1&(c>0|t=9)|m=2&(c>1|c=1&t=9)|m=3&(c>2|c=2&t=9)|m=4&(c=4|c=3&t=9)");
+        due("12: bar of twenties", number, 0);
+    }
+
+    private static void twenties() {
+        countingByTwenties();
+        x.move(2);
+        x.move(1);
+        due("12: STILL behind 40", x.told(4), 40);
+        due("12: on(39, 0)", x.on(39, 0), 2);
+        due("12: on(40, 0)", x.on(40, 0), 6);
+        countingByTwenties();
+        x.move(3);
+        x.move(2);
+        x.move(1);
+        due("15: behind 60", x.when(3), 60);
+        due("12: not STILL by 40", x.told(4), -5);
+        x.pass(19);
+        due("15: behind 41", x.when(3), 41);
+        due("12: STILL behind 41 alone", x.told(4), -5);
+        countingByTwenties();
+        for (int m = 4; m > 0; m--) {
+            x.move(m);
+        }
+        x.pass(19);
+        due("15: behind 61 alone", x.when(4), -5);
+        due("15: behind 41, too", x.when(3), 41);
     }
 
     private static void pass() {
@@ -664,6 +713,12 @@ public final class PromiseTest {
         due("16: 2 and 4", rowOf(20), 1234);
         due("16: all but 1, as far as it goes", x.order(29, -1), 3);
         due("16: none at all", x.order(0, -1), 4);
+        bar("quorum 1;favour 1 m=4&c=0|m=3&c=1|m=2&c=2|m=1&c=3|m=0&c=4");
+        due("16: the last row of all", rowOf(31), 43210);
+        bar("quorum 1;favour 1 m=1&c=0|m=4&c=1|m=3&c=2|m=0&c=3|m=2&c=4");
+        due("16: a row amid", rowOf(31), 14302);
+        bar("quorum 1;favour 1 m=2&c=0|m=0&c=1|m=4&c=2|m=3&c=3|m=1&c=4");
+        due("16: another", rowOf(31), 20431);
         due("16: THE AGENDA stays", x.count(2), 0);
         due("16: nothing changed", x.told(2) + x.told(0), 0);
     }
@@ -809,6 +864,12 @@ public final class PromiseTest {
         due("21: none", x.firm(0, 0), 0);
         due("21: no least", x.firm(0, 1), -5);
         due("21: v stays", x.of(0, 1), 4);
+        x.see(-1, 0, true);
+        bar("quorum 1;resent 8 m=4");
+        x.move(4);
+        x.see(4, 1, true);
+        due("21: 9 alone", x.firm(0, 0), 1);
+        due("21: 9 is the least", x.firm(0, 1), 9);
         due("21: what 2", x.firm(0, 2), -1);
         due("21: what -1", x.firm(0, -1), -1);
         due("21: thing 1", x.firm(1, 0), -1);
@@ -910,6 +971,11 @@ public final class PromiseTest {
         x.set(4, 0, 0);
         due("24: 0 by 3 above", x.mean(0), 0);
         due("24: 0 by 3 below", x.mean(1), 1);
+        x.set(0, 0, 7);
+        x.lose(1, true);
+        x.lose(4, true);
+        due("24: the first alone, above", x.mean(0), 7);
+        due("24: the first alone, below", x.mean(1), 1);
         due("24: part 2", x.mean(2), Long.MIN_VALUE);
         due("24: part -1", x.mean(-1), Long.MIN_VALUE);
     }
@@ -1156,12 +1222,16 @@ public final class PromiseTest {
         fresh();
         x.image();
         x.thing(6, 9, 9);
-        x.row(0, 2, 9);
+        for (int k = 0; k < 4; k++) {
+            x.row(0, k, 9);
+        }
         x.set(0, 0, 9);
         x.lose(0, true);
         x.undo();
         x.thing(6, 1, 1);
-        due("33: ROW anew", x.row(0, 2, 0), 0);
+        for (int k = 0; k < 4; k++) {
+            due("33: ROW anew", x.row(0, k, 0), 0);
+        }
         due("33: WEIGHT anew", x.of(0, 2), 1);
         due("33: LOST anew", x.of(0, 4), 0);
     }
