@@ -138,7 +138,7 @@ public final class FlotsamQuorum {
         if (cell(things.kind, thing) != TOLD) {
             return STATE;
         }
-        return swap(things.rows, thing * TOLD_ROW + k, n);
+        return exchange(things.rows, thing * TOLD_ROW + k, n);
     }
 
     public int set(int thing, int what, int n) {
@@ -149,7 +149,7 @@ public final class FlotsamQuorum {
         if (!isNumber(n)) {
             return BAD;
         }
-        return swap(what == 0 ? things.weight : things.drift, thing, n);
+        return exchange(what == 0 ? things.weight : things.drift, thing, n);
     }
 
     public int lose(int thing, boolean is) {
@@ -169,7 +169,7 @@ public final class FlotsamQuorum {
         if (!isNumber(n)) {
             return BAD;
         }
-        return swap(now.shore.winds, k, n);
+        return exchange(now.shore.winds, k, n);
     }
 
     public int move(int motion) {
@@ -621,7 +621,7 @@ public final class FlotsamQuorum {
         }
     }
 
-    private static int swap(int[] row, int i, int n) {
+    private static int exchange(int[] row, int i, int n) {
         int was = cell(row, i);
         put(row, i, n);
         return was;
@@ -661,10 +661,10 @@ public final class FlotsamQuorum {
         while (j > i && cell(row, j) < cell(row, i)) {
             j--;
         }
-        put(row, i, swap(row, j, cell(row, i)));
+        put(row, i, exchange(row, j, cell(row, i)));
         int a = i + 1;
         for (int b = row.length - 1; a < b; b--) {
-            put(row, a, swap(row, b, cell(row, a)));
+            put(row, a, exchange(row, b, cell(row, a)));
             a++;
         }
     }
@@ -696,7 +696,7 @@ public final class FlotsamQuorum {
             return i >= 0 && i < size;
         }
 
-        /** The place may have been another's before an undo(), so all of it is written. */
+        /** All of the place is written, so that it is the same whatever stood in it before. */
         int add(int itsKind, int itsV, int itsDrift) {
             put(kind, size, itsKind);
             put(v, size, itsV);
