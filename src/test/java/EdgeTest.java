@@ -44,6 +44,7 @@ public final class EdgeTest {
         as();
         image();
         undone();
+        whatRowsHeld();
         counts();
         theLastCall();
         Check.end("EdgeTest");
@@ -1224,6 +1225,64 @@ public final class EdgeTest {
         due("33: THE TAPE as ahead", x.bar(), -12);
         due("33: room as ahead: BARS", bar("quorum 9"), 4);
         due("33: FULL as ahead: BARS", x.bar(), -4);
+    }
+
+    /** Rows that are as many as those of THE IMAGE, but others. */
+    private static void whatRowsHeld() {
+        fresh();
+        x.thing(0, 0, 0);
+        x.thing(0, 0, 5);
+        x.set(1, 0, 3);
+        bar("favour 7 m=1|m=2;quorum 1");
+        x.move(1);
+        x.carry(3, true);
+        x.see(1, 1, true);
+        x.plan(1, 1);
+        x.book(1, 5);
+        Check.feed(x, "quorum 5");
+        x.image();
+        due("3: another BAR", bar(";quorum 9;favour 2 m=0"), 1);
+        Check.feed(x, "favour 3");
+        x.see(-1, 0, true);
+        x.see(2, 3, true);
+        x.plan(-1, 0);
+        x.plan(3, 3);
+        x.book(-1, 0);
+        x.book(0, 9);
+        x.move(-1);
+        x.move(2);
+        due("20: another of SEEN", x.drifts(1), 0);
+        due("26: another PLAN", x.done(0) * 10 + x.done(1), 3);
+        due("28: another BOOK", x.looked(), 0);
+        due("33: undo", x.undo(), 2);
+        due("33: THE AGENDA as it was", x.on(1, 0), 10);
+        due("33: the E of the BAR as it was", x.of(0, 12), 7);
+        due("33: all CLAUSES as they were", x.of(0, 10), 0);
+        due("33: QUORUM as it was", x.told(1), 1);
+        due("33: SEEN as it was", x.drifts(1), 1023);
+        due("33: PLAN as it was", x.done(0) * 10 + x.done(1), 81);
+        due("33: BOOK as it was", x.looked(), -5);
+        due("33: THE TAPE as it was", x.bar(), 1);
+        due("33: THE TAPE as it was, QUORUM", x.told(1), 5);
+        x.undo();
+        x.lose(0, true);
+        x.lose(1, true);
+        due("33: SEEN, the MOTION", x.drifts(1), 0);
+        x.undo();
+        x.carry(1, true);
+        x.move(-1);
+        due("33: SEEN, whether", x.drifts(1), 1023);
+        x.undo();
+        x.bar();
+        x.carry(1, true);
+        x.see(-1, 0, true);
+        x.see(1, 0, true);
+        x.undo();
+        due("33: SEEN, behind how many", x.drifts(0), 1023);
+        x.set(1, 1, 4);
+        due("33: BOOK, the THING", x.looked(), 0);
+        x.set(1, 1, 5);
+        due("33: BOOK, the DRIFT", x.looked(), -5);
     }
 
     private static void counts() {

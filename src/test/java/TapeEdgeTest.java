@@ -233,6 +233,13 @@ public final class TapeEdgeTest {
         fault("the last of 100 bytes", most + "t=9|m=x", 99);
         fault("the size 99, it ends too early", most + "t=9|m=", 99);
         fault("the size 100, it ends too early", most + "t=10|k=", 100);
+        FlotsamQuorum five = new FlotsamQuorum();
+        five.thing(0, 0, 0);
+        for (int i = 0; i < 5; i++) {
+            Check.due("3: five BARS of 100", Check.bar(five, i < 4 ? whole : whole.replace("favour 1", "resent 9")), i);
+        }
+        Check.due("5: the fifth of 100 counts", five.of(0, 10), -9);
+        Check.due("5: as it tells", five.of(0, 11), -9);
         FlotsamQuorum y = new FlotsamQuorum();
         Check.feed(y, whole + "x");
         Check.due("3: the sign that was refused is not read", y.bar(), 0);
@@ -246,6 +253,12 @@ public final class TapeEdgeTest {
         FlotsamQuorum x = new FlotsamQuorum();
         Check.bar(x, TEN);
         Check.due("3: the last n of the tenth", x.told(1), 0);
+        FlotsamQuorum tenth = new FlotsamQuorum();
+        tenth.thing(0, 0, 0);
+        Check.due("3: 10 CLAUSES, an E in the tenth", Check.bar(tenth, TEN.substring(9) + ";resent 8 p=0"), 0);
+        Check.due("5: the tenth counts", tenth.of(0, 10), -8);
+        Check.due("3: an E in the first of 10", Check.bar(tenth, "favour 3 p=0;" + TEN.substring(9)), 1);
+        Check.due("5: the first counts", tenth.of(0, 10), 3);
         fault("none at all", "", 0);
         fault("an empty one ahead", ";quorum 1", 0);
         fault("an empty one amid", "quorum 1;;quorum 1", 9);
