@@ -672,6 +672,7 @@ public final class EdgeTest {
 
     private static void order() {
         fresh();
+        due("16: of several the first, none of which is as told in any", rowOf(31), 1234);
         for (int set = 0; set <= 31; set++) {
             due("16: of how many, none IN, set " + set, x.order(set, -1), 5 - Integer.bitCount(set));
         }
@@ -1244,14 +1245,14 @@ public final class EdgeTest {
         due("3: another BAR", bar(";quorum 9;favour 2 m=0"), 1);
         Check.feed(x, "favour 3");
         x.see(-1, 0, true);
-        x.see(2, 3, true);
+        x.see(2, 3, false);
         x.plan(-1, 0);
         x.plan(3, 3);
         x.book(-1, 0);
         x.book(0, 9);
         x.move(-1);
         x.move(2);
-        due("20: another of SEEN", x.drifts(1), 0);
+        due("20: another of SEEN", x.drifts(1), 1023);
         due("26: another PLAN", x.done(0) * 10 + x.done(1), 3);
         due("28: another BOOK", x.looked(), 0);
         due("33: undo", x.undo(), 2);

@@ -145,7 +145,8 @@ public final class RulesTest extends TreePathScanner<Void, Void> {
         if (variable.getModifiers().getFlags().contains(Modifier.STATIC)) {
             must(5, variable.getModifiers().getFlags().contains(Modifier.FINAL), "static is final: " + variable);
             ExpressionTree made = variable.getInitializer();
-            boolean isRow = made instanceof NewArrayTree && brackets == 1 && ((NewArrayTree) made).getInitializers() != null;
+            boolean isWritten = made instanceof NewArrayTree && ((NewArrayTree) made).getInitializers() != null;
+            boolean isRow = isWritten && isNumber && brackets == 1;
             boolean isOne = brackets == 0 && !(made instanceof NewClassTree) && !(made instanceof MethodInvocationTree);
             must(5, isRow || isOne, "a static constant: " + variable);
         }
