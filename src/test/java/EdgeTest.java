@@ -37,6 +37,7 @@ public final class EdgeTest {
         odds();
         mean();
         plan();
+        planOfOneRow();
         book();
         acts();
         wraps();
@@ -148,6 +149,18 @@ public final class EdgeTest {
         due("6: MOTION 4 modulo 4 is 0", x.of(1, 14), 1 - 4);
         for (int k = 0; k < 4; k++) {
             due("6: each k of its own", x.of(1, 10 + k), k + 1 - 4);
+        }
+        fresh();
+        for (int i = 0; i < 6; i++) {
+            x.thing(6, 0, 0);
+            for (int k = 0; k < 4; k++) {
+                x.row(i, k, i + k + 1);
+            }
+            for (int j = 0; j <= i; j++) {
+                for (int k = 0; k < 4; k++) {
+                    due("6: ROW of " + j + " as told, of " + (i + 1), x.of(j, 10 + k), j + k + 1 - 4);
+                }
+            }
         }
     }
 
@@ -810,6 +823,14 @@ public final class EdgeTest {
         due("20: nothing SEEN: all", x.drifts(0), 1023);
         due("21: nothing SEEN: all", x.firm(0, 0), 10);
         due("21: nothing SEEN: the least", x.firm(0, 1), 0);
+        for (int m = 0; m < 5; m++) {
+            x.carry(m, true);
+            due("20: nothing SEEN, CARRIED up to " + m, x.drifts(0), 1023);
+            due("21: nothing SEEN, CARRIED up to " + m, x.firm(0, 0), 10);
+        }
+        for (int m = 0; m < 5; m++) {
+            x.carry(m, false);
+        }
         x.see(0, 0, true);
         due("20: otherwise now: none", x.drifts(0), 0);
         due("21: otherwise now: none", x.firm(0, 0), 0);
@@ -1003,6 +1024,34 @@ public final class EdgeTest {
         x.plan(0, 7);
         due("26: behind 8", x.done(0), 31);
         due("26: TIDE stays", x.told(0), 0);
+    }
+
+    /** Each row does what it tells and nothing else: all MOTIONS are CARRIED, each second THING is LOST. */
+    private static void planOfOneRow() {
+        fresh();
+        for (int i = 0; i < 6; i++) {
+            x.thing(i, 0, 0);
+            x.lose(i, i % 2 == 1);
+        }
+        for (int m = 0; m < 5; m++) {
+            x.carry(m, true);
+        }
+        for (int n = 0; n < 6; n++) {
+            x.plan(1, n);
+            due("26: 1 is LOST, CARRIED as they were: " + n, x.done(0), 31);
+            due("26: 1 is LOST, the others as they were: " + n, x.done(1), 21 & ~(1 << n));
+            x.plan(-1, 0);
+            x.plan(2, n);
+            due("26: 2 is not, CARRIED as they were: " + n, x.done(0), 31);
+            due("26: 2 is not, the others as they were: " + n, x.done(1), 21 | 1 << n);
+            x.plan(-1, 0);
+            if (n < 5) {
+                x.plan(3, n);
+                due("26: 3 is not CARRIED, the others as they were: " + n, x.done(0), 31 & ~(1 << n));
+                due("26: 3 is not CARRIED, IN as they were: " + n, x.done(1), 21);
+                x.plan(-1, 0);
+            }
+        }
     }
 
     private static void book() {

@@ -12,7 +12,7 @@ import java.util.TreeSet;
 import java.util.regex.Matcher;
 import java.util.regex.Pattern;
 
-/** The face of the class, and those rules of LANGUAGE.md that can be looked up; the file's path is the argument. */
+/** The face of the class, and those rules of LANGUAGE.md that can be looked up in its file. */
 public final class LanguageTest {
     private static final String[] FACE = {
         "int feed(int)", "int bar()", "int thing(int,int,int)", "int of(int,int)", "int row(int,int,int)",
@@ -28,6 +28,7 @@ public final class LanguageTest {
         "volatile", "native", "transient", "yield", "var", "NaN"
     };
     private static final String[] SIGNS = {"->", "::", "Exact(", "+ \"", "\" +", "System.out", "System.err"};
+    private static final Path FILE = Path.of("src/main/java/FlotsamQuorum.java");
     private static final int MOST_LINES = 60;
     private static final int MOST_CLASSES = 12;
     private static final int MOST_FIELDS = 20;
@@ -38,7 +39,7 @@ public final class LanguageTest {
     public static void main(String[] args) throws IOException {
         face();
         classes();
-        String source = Files.readString(Path.of(args[0]));
+        String source = Files.readString(FILE);
         signs(source);
         words(withoutComments(source));
         for (String fault : faults) {

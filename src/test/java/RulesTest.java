@@ -45,7 +45,7 @@ import javax.tools.ToolProvider;
 
 /**
  * LANGUAGE.md's rules, looked up in the compiler's own tree of the program: types, calls of the library, what throws,
- * indexes and divisors, loops, recursion and how deep calls go. The file's path is the argument.
+ * indexes and divisors, loops, recursion and how deep calls go.
  */
 public final class RulesTest extends TreePathScanner<Void, Void> {
     private static final Set<String> LIBRARY = Set.of("String.length", "String.charAt", "String.isEmpty",
@@ -54,6 +54,7 @@ public final class RulesTest extends TreePathScanner<Void, Void> {
         "Arrays.copyOf", "Arrays.copyOfRange", "Arrays.fill");
     private static final Set<String> NUMBERS = Set.of("int", "long", "short", "byte", "char", "boolean", "double",
         "float");
+    private static final String FILE = "src/main/java/FlotsamQuorum.java";
     private static final int DEEPEST = 8;
 
     private final Trees trees;
@@ -73,7 +74,7 @@ public final class RulesTest extends TreePathScanner<Void, Void> {
         JavaCompiler compiler = ToolProvider.getSystemJavaCompiler();
         StandardJavaFileManager files = compiler.getStandardFileManager(null, null, null);
         JavacTask task = (JavacTask) compiler.getTask(null, files, null, List.of("-proc:none"), null,
-            files.getJavaFileObjects(new File(args[0])));
+            files.getJavaFileObjects(new File(FILE)));
         List<CompilationUnitTree> units = new ArrayList<>();
         task.parse().forEach(units::add);
         task.analyze();
