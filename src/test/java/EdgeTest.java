@@ -780,7 +780,24 @@ public final class EdgeTest {
             bar("quorum 0;favour 1 p=" + i + ";resent 1 p<" + i + "|p>" + i);
             due("18: the one for it: " + i, x.stop(2), 1 << i);
         }
-        // The fewest ahead of the least: 1 and 2 together are less as bits than 8 alone.
+        // The fewest ahead of the least: without 0 and 1 (bits 3) it is 2 against 2, and so without 3 alone (bits 8).
+        for (int m = 0; m < 5; m++) {
+            fresh();
+            for (int i = 0; i < 4; i++) {
+                x.thing(0, 0, 0);
+            }
+            x.set(2, 0, 2);
+            x.set(3, 0, 2);
+            x.move(m);
+            bar("favour 1 p=0|p=1|p=3;resent 1 p=2");
+            due("18: one alone ahead of two that are less as bits, MOTION " + m, x.stop(m), 8);
+            x.lose(3, true);
+            due("18: 3 is LOST, it is not CARRIED: MOTION " + m, x.stop(m), 0);
+            x.lose(3, false);
+            x.set(3, 0, 3);
+            x.set(2, 0, 1);
+            due("18: two, the least as bits of 9 and 10: MOTION " + m, x.stop(m), 9);
+        }
         fresh();
         for (int i = 0; i < 4; i++) {
             x.thing(0, 0, 0);
